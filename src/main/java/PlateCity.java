@@ -31,9 +31,7 @@ public final class PlateCity {
 
     // A token of the terms is a word's place in WORDS, one of the three behind them, or a sign's byte (40 and above).
     private static final String WORDS =
-        "wall    trade   worth   sum     loss    others  near    min     max     all     office  not     "
-        + "and     or      cover   void    help    pay     premium beside  first   parts   after   ";
-    private static final int WORD_WIDTH = 8;
+        "wall trade worth sum loss others near min max all office not and or cover void help pay premium beside first parts after ";
     private static final int WALL = 0;
     private static final int TRADE = 1;
     private static final int WORTH = 2;
@@ -57,7 +55,6 @@ public final class PlateCity {
     private static final int FIRST = 20;
     private static final int PARTS = 21;
     private static final int AFTER = 22;
-    private static final int WORD_COUNT = 23;
     private static final int NUMBER = 23;
     private static final int END = 24;
     private static final int BAD = 25;
@@ -649,27 +646,23 @@ public final class PlateCity {
         }
 
         private int wordAt(int from) {
-            for (int word = 0; word < WORD_COUNT; word++) {
-                if (isWord(word, from)) {
+            int word = 0;
+            int i = from;
+            boolean same = true;
+            for (int w = 0; w < WORDS.length(); w++) {
+                boolean isLetter = i < length && sortOf(text[i]) == LETTER;
+                if (WORDS.charAt(w) != ' ') {
+                    same = same && isLetter && text[i] == WORDS.charAt(w);
+                    i++;
+                } else if (same && !isLetter) {
                     return word;
+                } else {
+                    word++;
+                    i = from;
+                    same = true;
                 }
             }
             return BAD;
-        }
-
-        // The longest word has seven letters, so that a blank in WORDS ends each.
-        private boolean isWord(int word, int from) {
-            for (int i = 0; i < WORD_WIDTH; i++) {
-                int due = WORDS.charAt(word * WORD_WIDTH + i);
-                boolean isLetter = from + i < length && sortOf(text[from + i]) == LETTER;
-                if (due == ' ') {
-                    return !isLetter;
-                }
-                if (!isLetter || text[from + i] != due) {
-                    return false;
-                }
-            }
-            return false;
         }
 
         // NONE for more than five digits: whether that is a fault at the sixth shows only where a number is asked.
