@@ -104,6 +104,10 @@ public final class OracleTest {
     private void settleIn() {
         int wide = 1 + random.nextInt(random.nextBoolean() ? 4 : 12);
         int high = 1 + random.nextInt(random.nextBoolean() ? 3 : 10);
+        if (random.nextInt(20) == 0) {
+            wide = 12;
+            high = 10;
+        }
         check("city " + wide + " " + high, bit(city.city(wide, high)), bit(oracle.city(wide, high)));
         int dense = 1 + random.nextInt(10);
         int firm = 1 + random.nextInt(4);

@@ -165,7 +165,9 @@ public final class PromiseTest {
         no(x.city(LEAST, MOST), "far off");
         due(10, x.all(0), "cells as before");
         cityTakes();
+        cityTakesBack();
         cityLeaves();
+        greatest();
     }
 
     private static void cityTakes() {
@@ -198,6 +200,61 @@ public final class PromiseTest {
         due(3, x.burnt(1, 1), "heat without wind");
         due(0, x.fall(1, 0), "deals are gone");
         due(1, x.place(0), "told anew");
+    }
+
+    /** What was told of a wind, a deal or a void act does not show under the new city's own ones. */
+    private static void cityTakesBack() {
+        PlateCity x = cityOf(1, 3);
+        x.wind(1, 4, 20);
+        x.wind(3, 4, 9);
+        x.deal(0, 1, 1000);
+        x.policy(0, 0, 1);
+        x.city(1, 3);
+        for (int cell = 0; cell < 3; cell++) {
+            x.house(cell, 0, 0, 1500);
+        }
+        x.run(1, 3);
+        due(2 - 2 + 3 - 2 + 4, x.burnt(2, 1), "heat without wind");
+        x.wind(1, 4, 1);
+        x.run(1, 3);
+        due(3 - 2 + 4 - 2 + 5, x.burnt(2, 1), "the new wind goes on");
+        due(1, x.policy(1, 3, 500), "policy");
+        due(2, x.annul(1), "void");
+        x.city(1, 3);
+        x.house(1, 0, 0, 1500);
+        due(1, x.policy(1, 1, 500), "policy");
+        due(2, x.helps(1), "not void");
+        tell(x, 1, "cover all;");
+        x.run(1, 5);
+        due(500, x.settled(1), "settled");
+        due(0, x.fall(0, 0), "no deal");
+    }
+
+    /** Every cell of the greatest city has a house, and all burn. */
+    private static void greatest() {
+        PlateCity x = cityOf(12, 10);
+        for (int cell = 0; cell < 120; cell++) {
+            yes(x.house(cell, cell % 4, cell % 6, 100), "house");
+        }
+        for (int trade = 0; trade < 6; trade++) {
+            x.hazard(trade, 9);
+        }
+        tell(x, 8, "help all;cover all;");
+        x.plug(119, true);
+        x.policy(119, 8, 100);
+        for (int i = 0; i < 9; i++) {
+            x.engine(0, 119 - i, 9, 9);
+        }
+        due(256, x.helps(119), "helps");
+        due(120, x.run(119, 120), "all burn");
+        due(12000, x.lost(), "all is lost");
+        due(100, x.settled(8), "settled");
+        due(1, x.worst(8, 60) >= 0 ? 1 : 0, "worst");
+        x.place(119);
+        due(1, x.plan(1, 8, 9, 9, 118, 60) > 0 ? 1 : 0, "plan");
+        due(120, x.all(1), "houses");
+        due(-1, x.burnt(120, 0), "no cell");
+        due(-1, x.place(120), "no cell");
     }
 
     private static void cityLeaves() {
@@ -306,9 +363,9 @@ public final class PromiseTest {
         x.run(4, 4);
         due(3 - 2 + 24 - 2 + 5, x.burnt(5, 1), "another one");
         due(3 - 2 + 4 - 2 + 6, x.burnt(3, 1), "another one");
-        yes(x.wind(3, 6, 1), "told again");
+        yes(x.wind(3, 6, 7), "told again");
         x.run(4, 4);
-        due(3 - 2 + 5 - 2 + 6, x.burnt(3, 1), "told again");
+        due(3 - 2 + 11 - 2 + 6, x.burnt(3, 1), "told again, 4 as before");
         wrongWinds(x);
     }
 
@@ -450,6 +507,8 @@ public final class PromiseTest {
         faulty("cover all  ", 1, 11);
         faulty("cov", 1, 0);
         faulty("coverall;", 1, 0);
+        faulty("coverz all;", 1, 0);
+        faulty("covera all;", 1, 0);
         faulty("covers all;", 1, 0);
         faulty("Cover all;", 1, 0);
         faulty("cover\tall;", 1, 5);
@@ -1336,6 +1395,31 @@ public final class PromiseTest {
         x.plan(1, 4, 1, 9, 0, 15);
         due(200, x.lost(), "the latest run stays");
         wrongPlans(x);
+        sets();
+    }
+
+    /** A fire in cell 0 with a plug, where the three nearest that are told are together the best. */
+    private static void bestSet(int k, int pours, int[] cells, int loss, int[] best) {
+        PlateCity x = cityOf(12, 1);
+        x.house(0, 0, 0, 1500);
+        x.plug(0, true);
+        tell(x, 4, "help all;");
+        for (int cell : cells) {
+            x.place(cell);
+        }
+        due(loss, x.plan(k, 4, 1, pours, 0, 15), "the best of " + cells.length + " by " + k);
+        for (int i = 0; i < k; i++) {
+            due(best[i], x.planned(i), "engine " + i + " of the best");
+        }
+    }
+
+    private static void sets() {
+        bestSet(2, 2, new int[] {11, 2, 3, 10}, 500, new int[] {2, 3});
+        bestSet(2, 2, new int[] {11, 3, 10, 2}, 500, new int[] {3, 2});
+        bestSet(3, 1, new int[] {11, 2, 3, 10, 4}, 700, new int[] {2, 3, 4});
+        bestSet(3, 1, new int[] {4, 11, 2, 10, 3}, 700, new int[] {4, 2, 3});
+        bestSet(3, 1, new int[] {11, 10, 9, 8, 7, 2, 3, 4}, 700, new int[] {2, 3, 4});
+        bestSet(1, 9, new int[] {11, 10, 9, 8, 7, 6, 5, 2}, 400, new int[] {2});
     }
 
     private static void wrongPlans(PlateCity x) {
