@@ -215,6 +215,7 @@ public final class PromiseTest {
         }
         x.run(1, 3);
         due(2 - 2 + 3 - 2 + 4, x.burnt(2, 1), "heat without wind");
+        due(2 - 2 + 3 - 2 + 4, x.burnt(0, 1), "heat without wind");
         x.wind(1, 4, 1);
         x.run(1, 3);
         due(3 - 2 + 4 - 2 + 5, x.burnt(2, 1), "the new wind goes on");
@@ -369,8 +370,35 @@ public final class PromiseTest {
         wrongWinds(x);
     }
 
+    /** Houses of the slowest wall in a row, one lit by the other: the fifth burns at 120 and warms the sixth. */
+    private static PlateCity slowRow() {
+        PlateCity x = cityOf(7, 1);
+        for (int cell = 0; cell < 7; cell++) {
+            x.house(cell, 3, 0, 0);
+        }
+        return x;
+    }
+
+    private static void lastMinute() {
+        PlateCity x = slowRow();
+        x.run(0, 120);
+        due(1, x.burnt(4, 0), "the fifth burns");
+        due(-1, x.burnt(5, 5), "the sixth does not yet");
+        int still = x.burnt(5, 1);
+        x.wind(119, 2, 20);
+        x.run(0, 120);
+        due(still + 40, x.burnt(5, 1), "of 119 and on to 120");
+        x.wind(120, 2, 3);
+        x.run(0, 120);
+        due(still + 23, x.burnt(5, 1), "of 120 alone");
+        x.wind(119, 2, 0);
+        x.run(0, 120);
+        due(still + 3, x.burnt(5, 1), "of 120 alone");
+    }
+
     private static void wrongWinds(PlateCity x) {
         yes(x.wind(120, 7, 20), "the last minute");
+        lastMinute();
         no(x.wind(0, 0, 0), "no minute");
         no(x.wind(121, 0, 0), "no minute");
         no(x.wind(1, 8, 0), "no way");
@@ -1139,6 +1167,36 @@ public final class PromiseTest {
         due(-1, x.settled(LEAST), "no office");
         rests();
         inTurn();
+        crowd();
+    }
+
+    /** As many policies on one house as there can be acts, but for the terms; the loss is 1. */
+    private static void crowd() {
+        PlateCity x = cityOf(1, 1);
+        x.house(0, 0, 0, 15);
+        tell(x, 0, "cover all;pay 7;");
+        for (int act = 2; act <= 200; act++) {
+            due(act, x.policy(0, 0, 5), "policy");
+        }
+        x.run(0, 1);
+        due(1, x.settled(0), "the one coin");
+        due(1, x.claim(2, 1), "to the least act");
+        due(0, x.claim(3, 1), "not to others");
+        due(5, x.claim(200, 0), "asks");
+        due(0, x.claim(200, 1), "gets nothing");
+        due(0, x.worst(0, 1), "1 is above 0");
+        x.run(0, 14);
+        due(14, x.settled(0), "all that is lost");
+        due(1, x.claim(15, 1), "the last that gets one");
+        due(0, x.claim(16, 1), "the first that does not");
+        PlateCity y = cityOf(1, 1);
+        y.house(0, 0, 0, 15);
+        for (int act = 1; act <= 200; act++) {
+            y.policy(0, act % 9, 5);
+        }
+        y.run(0, 1);
+        due(0, y.claim(200, 0), "asks nothing without terms");
+        due(511, y.helps(0), "all nine");
     }
 
     /** Left is 200, and 70, 80, 90, 100 are asked: floors 41, 47, 52, 58, and what lacks goes to the greatest rests. */
