@@ -4,8 +4,9 @@ import java.util.Random;
 
 /** Runs of calls, drawn with set seeds, on PlateCity and on the oracle: every answer must be the same. */
 public final class OracleTest {
-    // Texts stand among the lines that are counted, so that no run has more calls than the document allows.
-    private static final int CALLS = 500;
+    // The last step may make some forty calls more; what later calls than the 512th answer is free.
+    private static final int CALLS = 470;
+    private static final int CALLS_BEFORE_POLICIES = 300;
 
     private final Random random;
     private final PlateCity city = new PlateCity();
@@ -35,7 +36,7 @@ public final class OracleTest {
                 System.exit(1);
             }
         }
-        System.out.println(runs + " runs of " + CALLS + " calls agree with the oracle");
+        System.out.println(runs + " runs of some " + CALLS + " calls agree with the oracle");
     }
 
     private void go() {
@@ -124,7 +125,7 @@ public final class OracleTest {
             int n = random.nextInt(10);
             check("hazard " + trade + " " + n, bit(city.hazard(trade, n)), bit(oracle.hazard(trade, n)));
         }
-        for (int i = random.nextInt(20); i > 0 && !wrong; i--) {
+        for (int i = random.nextInt(20); i > 0 && !wrong && said.size() < CALLS_BEFORE_POLICIES; i--) {
             tellTerms();
         }
         for (int i = random.nextInt(60); i > 0; i--) {
