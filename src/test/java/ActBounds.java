@@ -35,7 +35,7 @@ public final class ActBounds {
 
     private static void policies() {
         Bound.of("14 policy", "NONE when something can't be (no HOUSE there)");
-        Bound.between(0, 119, n -> fullCity().policy(n, 0, 1) == 1, "cell");
+        Bound.between(0, 119, n -> Bound.greatest(0, 0).policy(n, 0, 1) == 1, "cell");
         PlateCity x = Bound.cityOf(3, 1);
         x.house(1, 0, 0, 0);
         Bound.due(-1, x.policy(0, 0, 1), "no house in the cell ahead");
@@ -45,14 +45,6 @@ public final class ActBounds {
         Bound.between(0, 8, n -> Bound.row(1, 0, 0).policy(0, n, 1) == 1, "office");
         Bound.of("14 policy", "a SUM (1 .. 99999)");
         Bound.between(1, 99999, n -> Bound.row(1, 0, 0).policy(0, 0, n) == 1, "sum");
-    }
-
-    private static PlateCity fullCity() {
-        PlateCity x = Bound.cityOf(12, 10);
-        for (int cell = 0; cell < 120; cell++) {
-            x.house(cell, 0, 0, 0);
-        }
-        return x;
     }
 
     private static void policiesNumbered() {
@@ -497,8 +489,8 @@ public final class ActBounds {
         Bound.due(-1, x.helps(-1), "no cell");
         Bound.due(-1, x.helps(Bound.LEAST), "no cell");
         Bound.due(-1, x.helps(Bound.MOST), "no cell");
-        Bound.due(0, fullCity().helps(119), "the last cell");
-        Bound.due(-1, fullCity().helps(120), "behind the last cell");
+        Bound.due(0, Bound.greatest(0, 0).helps(119), "the last cell");
+        Bound.due(-1, Bound.greatest(0, 0).helps(120), "behind the last cell");
     }
 
     private static void helpsBits() {

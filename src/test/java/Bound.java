@@ -117,6 +117,15 @@ final class Bound {
         return x;
     }
 
+    /** The greatest city, with houses in all its cells. */
+    static PlateCity greatest(int wall, int worth) {
+        PlateCity x = cityOf(12, 10);
+        for (int cell = 0; cell < 120; cell++) {
+            x.house(cell, wall, 0, worth);
+        }
+        return x;
+    }
+
     static String times(int n, String text) {
         return text.repeat(n);
     }

@@ -67,10 +67,7 @@ public final class FireBounds {
         y.plug(0, true);
         Bound.due(1, y.run(0, 2), "it burns");
         Bound.due(0, y.run(0, 3), "it is put out: none");
-        PlateCity z = Bound.cityOf(12, 10);
-        for (int cell = 0; cell < 120; cell++) {
-            z.house(cell, 0, 0, 0);
-        }
+        PlateCity z = Bound.greatest(0, 0);
         z.hazard(0, 9);
         Bound.due(120, z.run(0, 120), "all of the greatest city");
     }
@@ -248,10 +245,7 @@ public final class FireBounds {
             boolean around = cell != 12 && Math.abs(cell / 5 - 2) <= 1 && Math.abs(cell % 5 - 2) <= 1;
             Bound.due(around ? 2 : 0, x.burnt(cell, 1), "heat of " + cell);
         }
-        PlateCity y = Bound.cityOf(12, 10);
-        for (int cell = 0; cell < 120; cell++) {
-            y.house(cell, 3, 0, 0);
-        }
+        PlateCity y = Bound.greatest(3, 0);
         for (int corner : new int[] {0, 11, 108, 119}) {
             y.run(corner, 1);
             int warm = 0;
@@ -424,10 +418,7 @@ public final class FireBounds {
         Bound.due(-1, odd.came(0, 1), "no aim at 3");
         Bound.due(3, odd.run(18, 4), "both burn at 4");
         Bound.due(23, odd.came(0, 1), "three and none are fewer than two and two");
-        PlateCity far = Bound.cityOf(12, 10);
-        for (int cell = 0; cell < 120; cell++) {
-            far.house(cell, 3, 0, 0);
-        }
+        PlateCity far = Bound.greatest(3, 0);
         Bound.tell(far, 0, "help all;");
         far.engine(0, 0, 9, 1);
         far.run(119, 3);
@@ -658,10 +649,7 @@ public final class FireBounds {
     }
 
     private static PlateCity warmCity() {
-        PlateCity x = Bound.cityOf(12, 10);
-        for (int cell = 0; cell < 120; cell++) {
-            x.house(cell, 3, 0, 0);
-        }
+        PlateCity x = Bound.greatest(3, 0);
         x.run(0, 1);
         return x;
     }
@@ -765,10 +753,7 @@ public final class FireBounds {
             int want = minutes < 15 ? 0 : minutes < 17 ? 1 : 2;
             Bound.due(want, x.lost(), "lost after " + minutes);
         }
-        PlateCity y = Bound.cityOf(12, 10);
-        for (int cell = 0; cell < 120; cell++) {
-            y.house(cell, 0, 0, 9999);
-        }
+        PlateCity y = Bound.greatest(0, 9999);
         y.hazard(0, 9);
         y.run(0, 120);
         Bound.due(120 * 9999, y.lost(), "all of the greatest city");

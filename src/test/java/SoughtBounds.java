@@ -103,10 +103,8 @@ public final class SoughtBounds {
         x.policy(0, 5, 99999);
         x.policy(2, 5, 99999);
         Bound.due(2, x.worst(5, 60), "not the empty cell between two");
-        PlateCity y = Bound.cityOf(12, 10);
-        for (int cell = 0; cell < 120; cell++) {
-            y.house(cell, 0, 0, cell == 119 ? 9999 : 0);
-        }
+        PlateCity y = Bound.greatest(0, 0);
+        y.house(119, 0, 0, 9999);
         Bound.tell(y, 5, "cover all;");
         y.policy(119, 5, 99999);
         Bound.due(119, y.worst(5, 5), "the last cell of the greatest city");
